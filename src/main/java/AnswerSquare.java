@@ -20,7 +20,7 @@ public final class AnswerSquare {
     private int toldCount;
     /** What is so many sayings short of the end of a chain (bits); filled by chainLength. */
     private final int[] layers;
-    /** In how many orders a set can have come; filled by orders. */
+    /** In how many orders a set can have come; filled by orders, for the sets within the one that is asked for. */
     private final int[] ways;
     private long traced;
 
@@ -197,17 +197,15 @@ public final class AnswerSquare {
         return i < length ? chainStep(length, i, startable) : NONE;
     }
 
-    /** Goes from the end of the chain back to what can be said at once, so that the layers show the fewest ways on. */
+    /** Goes from the chain's end back to the first layer of which something can be said at once: that is the fewest. */
     private int chainLength(int w, int startable) {
-        int seen = 0;
         int layer = told.sayable & 1 << w;
         for (int left = 0; left < MOST_SAYINGS; left++) {
             layers[left] = layer;
             if ((layer & startable) != 0) {
                 return left + 1;
             }
-            seen |= layer;
-            layer = told.answeredBy(layer) & told.sayable & ~seen;
+            layer = told.answeredBy(layer) & told.sayable;
         }
         return NONE;
     }
@@ -336,7 +334,9 @@ public final class AnswerSquare {
         }
         ways[0] = 1;
         for (int come = 1; come <= set; come++) {
-            ways[come] = (come & ~set) == 0 ? waysTo(come, set) : 0;
+            if ((come & ~set) == 0) {
+                ways[come] = waysTo(come, set);
+            }
         }
         return ways[set];
     }
