@@ -214,7 +214,7 @@ public final class AnswerSquare {
     private int chainStep(int length, int i, int startable) {
         int next = startable;
         int step = NONE;
-        for (int done = 0; done <= i && done < length && length <= MOST_SAYINGS; done++) {
+        for (int done = 0; done <= i && done < length; done++) {
             step = lowest(next & layers[length - 1 - done]);
             next = told.answering(1 << step);
         }
@@ -580,87 +580,66 @@ public final class AnswerSquare {
         }
 
         private boolean readItem(Text text) {
-            if (text.token != Text.WORD) {
+            int letter = text.token == Text.WORD ? text.value : 0;
+            if (!hasRoomFor(letter)) {
                 return false;
             }
-            switch (text.value) {
-                case 'a': return sayings < MOST_SAYINGS && readSaying(text);
-                case 'z': return sayings < MOST_SAYINGS && readSound(text);
-                case 'p': return people < MOST_PEOPLE && readPerson(text);
-                case 'o': return !oldIsTold && readOld(text);
+            int number = 0;
+            if (letter != 'p') {
+                text.advance();
+                if (!text.isNumber(letter == 'o' ? 1 : 0, 9)) {
+                    return false;
+                }
+                number = text.value;
+            }
+            int bits = readNumbers(text, letter == 'a' || letter == 'p' ? MOST_SAYINGS : 0);
+            if (bits < 0) {
+                return false;
+            }
+            take(letter, number, bits);
+            return true;
+        }
+
+        /** False of letters that begin no item, too. */
+        private boolean hasRoomFor(int letter) {
+            switch (letter) {
+                case 'a': return sayings < MOST_SAYINGS;
+                case 'z': return sayings < MOST_SAYINGS;
+                case 'p': return people < MOST_PEOPLE;
+                case 'o': return !oldIsTold;
                 default: return false;
             }
         }
 
-        private boolean readSaying(Text text) {
-            text.advance();
-            if (!text.isNumber(0, 9)) {
-                return false;
-            }
-            int worth = text.value;
-            int bits = readNumbers(text);
-            return bits >= 0 && addSaying(worth, bits);
-        }
-
-        private boolean readSound(Text text) {
-            text.advance();
-            if (!text.isNumber(0, 9)) {
-                return false;
-            }
-            int worth = text.value;
-            text.advance();
-            if (text.token != Text.STOP) {
-                return false;
-            }
-            soundBits |= 1 << sayings;
-            return addSaying(worth, 0);
-        }
-
-        private boolean addSaying(int worth, int bits) {
-            if (sayings < 0 || sayings >= MOST_SAYINGS) {
-                return false;
-            }
-            worthy[sayings] = worth;
-            answers[sayings] = bits;
-            sayings++;
-            return true;
-        }
-
-        private boolean readPerson(Text text) {
-            int bits = readNumbers(text);
-            if (bits < 0 || people < 0 || people >= MOST_PEOPLE) {
-                return false;
-            }
-            knows[people] = bits;
-            people++;
-            return true;
-        }
-
-        private boolean readOld(Text text) {
-            text.advance();
-            if (!text.isNumber(1, 9)) {
-                return false;
-            }
-            old = text.value;
-            oldIsTold = true;
-            text.advance();
-            return text.token == Text.STOP;
-        }
-
         /** The bits of the numbers up to the item's end; BAD at a token that can't stand there. */
-        private static int readNumbers(Text text) {
+        private static int readNumbers(Text text, int most) {
             int bits = 0;
-            for (int read = 0; read <= MOST_SAYINGS; read++) {
+            for (int read = 0; read <= most; read++) {
                 text.advance();
                 if (text.token == Text.STOP) {
                     return bits;
                 }
-                if (read == MOST_SAYINGS || !text.isNumber(0, MOST_SAYINGS - 1)) {
+                if (read == most || !text.isNumber(0, MOST_SAYINGS - 1)) {
                     return BAD;
                 }
                 bits |= 1 << text.value;
             }
             return BAD;
+        }
+
+        private void take(int letter, int number, int bits) {
+            if (letter == 'o') {
+                old = number;
+                oldIsTold = true;
+            } else if (letter == 'p' && people < MOST_PEOPLE) {
+                knows[people] = bits;
+                people++;
+            } else if (sayings < MOST_SAYINGS) {
+                worthy[sayings] = number;
+                answers[sayings] = bits;
+                soundBits |= letter == 'z' ? 1 << sayings : 0;
+                sayings++;
+            }
         }
 
         /** Only here, as a number may be told ahead of the saying that it means. */
