@@ -162,7 +162,7 @@ public final class AnswerSquare {
             return BAD;
         }
         int sum = 0;
-        for (int k = 0; k < present.size; k++) {
+        for (int k = 0; k < present.size && k < MOST_TALK; k++) {
             if (present.root[k] == i) {
                 sum += told.worthOf(present.which[k]);
             }
@@ -214,7 +214,7 @@ public final class AnswerSquare {
     private int chainStep(int length, int i, int startable) {
         int next = startable;
         int step = NONE;
-        for (int done = 0; done <= i && done < length; done++) {
+        for (int done = 0; done <= i && done < length && length <= MOST_SAYINGS; done++) {
             step = lowest(next & layers[length - 1 - done]);
             next = told.answering(1 << step);
         }
@@ -343,7 +343,7 @@ public final class AnswerSquare {
 
     private int waysTo(int come, int set) {
         int sum = 0;
-        for (int last = 0; last < told.sayings; last++) {
+        for (int last = 0; last < told.sayings && last < MOST_SAYINGS; last++) {
             int ahead = come & ~(1 << last);
             if (ahead != come && (toldAhead[last] & set & ~ahead) == 0 && told.canFollow(last, ahead)) {
                 sum += ways[ahead];
@@ -665,7 +665,7 @@ public final class AnswerSquare {
         }
 
         private boolean hasAll(int set) {
-            return set >= 0 && set < 1 << sayings;
+            return set >= 0 && set < 1 << Math.min(sayings, MOST_SAYINGS);
         }
 
         private boolean isSound(int w) {
@@ -827,7 +827,7 @@ public final class AnswerSquare {
 
         private int timesIn(int w) {
             int times = 0;
-            for (int i = 0; i < size; i++) {
+            for (int i = 0; i < size && i < MOST_TALK; i++) {
                 if (which[i] == w) {
                     times++;
                 }
@@ -837,7 +837,7 @@ public final class AnswerSquare {
 
         private int timesBy(int p) {
             int times = 0;
-            for (int i = 0; i < size; i++) {
+            for (int i = 0; i < size && i < MOST_TALK; i++) {
                 if (by[i] == p) {
                     times++;
                 }
@@ -850,7 +850,7 @@ public final class AnswerSquare {
         }
 
         private int firstAnswerTo(int i) {
-            for (int k = 0; k < size; k++) {
+            for (int k = 0; k < size && k < MOST_TALK; k++) {
                 if (to[k] == i) {
                     return k;
                 }
@@ -864,7 +864,7 @@ public final class AnswerSquare {
 
         private int there(int hoursOn, int old) {
             int bits = 0;
-            for (int i = 0; i < size; i++) {
+            for (int i = 0; i < size && i < MOST_TALK; i++) {
                 if (isThere(i, hoursOn, old)) {
                     bits |= 1 << which[i];
                 }
@@ -873,7 +873,7 @@ public final class AnswerSquare {
         }
 
         private int latestOf(int set, int old) {
-            for (int i = size - 1; i >= 0; i--) {
+            for (int i = Math.min(size, MOST_TALK) - 1; i >= 0; i--) {
                 if ((set & 1 << which[i]) != 0 && isThere(i, 0, old)) {
                     return i;
                 }
@@ -883,7 +883,7 @@ public final class AnswerSquare {
 
         private int openOnes() {
             int open = 0;
-            for (int i = 0; i < size; i++) {
+            for (int i = 0; i < size && i < MOST_TALK; i++) {
                 if (isOpen(i)) {
                     open++;
                 }
@@ -892,7 +892,7 @@ public final class AnswerSquare {
         }
 
         private int lastOpen() {
-            for (int i = size - 1; i >= 0; i--) {
+            for (int i = Math.min(size, MOST_TALK) - 1; i >= 0; i--) {
                 if (isOpen(i)) {
                     return i;
                 }
@@ -902,7 +902,7 @@ public final class AnswerSquare {
 
         private int farthest() {
             int best = NONE;
-            for (int i = 0; i < size; i++) {
+            for (int i = 0; i < size && i < MOST_TALK; i++) {
                 if (!has(best) || far[i] > far[best]) {
                     best = i;
                 }
@@ -912,7 +912,7 @@ public final class AnswerSquare {
 
         private int firstAnswerers() {
             int bits = 0;
-            for (int i = 0; i < size; i++) {
+            for (int i = 0; i < size && i < MOST_TALK; i++) {
                 int answer = root[i] == i ? firstAnswerTo(i) : NONE;
                 if (has(answer)) {
                     bits |= 1 << by[answer];
@@ -924,7 +924,7 @@ public final class AnswerSquare {
         /** What is in talk ahead of the first time a saying is; nothing, if it never is. */
         private int aheadOf(int w) {
             int bits = 0;
-            for (int i = 0; i < size; i++) {
+            for (int i = 0; i < size && i < MOST_TALK; i++) {
                 if (which[i] == w) {
                     return bits;
                 }
