@@ -114,9 +114,11 @@ final class Edge {
     /** With numbers just beyond least and most, and far beyond, in the place of %, the call is refused. */
     Edge outside(String pattern, int least, int most, long want) {
         beyond(pattern, least - 1, want);
-        beyond(pattern, most + 1, want);
+        if (most < Integer.MAX_VALUE) {
+            beyond(pattern, most + 1, want);
+        }
         for (int number : FAR) {
-            if (number < least - 1 || number > most + 1) {
+            if (number < least || number > most) {
                 beyond(pattern, number, want);
             }
         }

@@ -363,6 +363,10 @@ public final class EdgeTextTest {
                 .due("count 3", 0).due("count 4", 0).due("count 2", 3);
         used.still(Edge.STATE, "back 0").still(Edge.STATE, "back 1").still(Edge.STATE, "undo").sameAs(anew);
         used("read anew: the trace goes on").read("z1;").due("trace", 100001);
+        edge("read anew: a third time").read("z9;z9;p0 1;o9;").read("p;o1;").read("a1;a2;").still(0, "saying 0 0")
+                .still(0, "saying 1 0").sameAs(edge("read anew: the third alone").read("a1;a2;"));
+        edge("read anew: behind a fault").typed("z9;z9;p0 1;o9;q").still(-24, "duchy").due("clear", 15).read("a1;a2;")
+                .sameAs(edge("read anew: without the fault").read("a1;a2;"));
         edge("read anew: the same text").read("z1;a2 0;p1;").due("hears 0", 0).read("z1;a2 0;p1;").sameAs(anew);
     }
 }
