@@ -274,6 +274,7 @@ public final class EdgeTextTest {
         fault("terms: ; begins no item", "p; ;", 3);
         fault("terms: a number begins no item", "1;", 0);
         fault("terms: a number begins no item", "z1;0", 3);
+        fault("terms: a number begins no item, as large as a letter", "97 1;", 0);
     }
 
     private static void whatCannotStandInAnItem() {
@@ -285,6 +286,11 @@ public final class EdgeTextTest {
         fault("terms: letters within a person", "p z1;", 2);
         fault("terms: letters within old", "o1o;", 2);
         fault("terms: letters that are more than one", "z1zz;", 2);
+        fault("terms: letters where a number may stand", "z zz;", 2);
+        fault("terms: letters where a number may stand", "a zz;", 2);
+        fault("terms: letters where a number may stand", "a1 zz;", 3);
+        fault("terms: letters where a number may stand", "p zz;", 2);
+        fault("terms: letters where a number may stand", "o zz;", 2);
     }
 
     private static void numbersAbove99() {
